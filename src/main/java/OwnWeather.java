@@ -374,7 +374,7 @@ public final class OwnWeather {
             return BAD;
         }
         int changing = changingPersons();
-        int sure = EVERY_HOUR;
+        int sure = EVERY_HOUR >> hour << hour;
         trial.open(LAST_HOUR);
         trial.walk();
         for (int sad = 0; sad < 1 << people.entries && sure != 0; sad++) {
@@ -988,8 +988,10 @@ public final class OwnWeather {
         void live() {
             for (int hour = 0; hour < last; hour++) {
                 gather(hour);
+                int now = hour * MOST_PERSONS;
                 for (int person = 0; person < people.entries; person++) {
-                    brightness[(hour + 1) * MOST_PERSONS + person] = brightnessAfter(hour, person);
+                    brightness[now + MOST_PERSONS + person] =
+                            brightnessAfter(at[now + person], brightness[now + person], people.seconds[person]);
                 }
             }
         }
@@ -1000,10 +1002,11 @@ public final class OwnWeather {
                 sums[place] = 0;
                 dark[place] = 0;
             }
+            int now = hour * MOST_PERSONS;
             for (int person = 0; person < people.entries; person++) {
-                int place = placeOf(hour, person);
-                if (isBelow(place, MOST_PLACES)) {
-                    int bright = brightnessOf(hour, person);
+                int place = at[now + person];
+                if (place >= 0 && place < MOST_PLACES) {
+                    int bright = brightness[now + person];
                     heads[place]++;
                     sums[place] += bright;
                     dark[place] += bright <= 1 ? 1 : 0;
@@ -1011,10 +1014,8 @@ public final class OwnWeather {
             }
         }
 
-        private int brightnessAfter(int hour, int person) {
-            int place = placeOf(hour, person);
-            int bright = brightnessOf(hour, person);
-            if (people.second(person) == CALM || !isBelow(place, MOST_PLACES)) {
+        private int brightnessAfter(int place, int bright, int kind) {
+            if (kind == CALM || place < 0 || place >= MOST_PLACES) {
                 return bright;
             }
             if (dark[place] >= 2) {
@@ -1060,9 +1061,14 @@ public final class OwnWeather {
         }
 
         boolean isMet(int hour, int place) {
-            int there = crowdAt(hour, place);
-            int number = Integer.bitCount(there);
-            int sum = sumOf(hour, there);
+            int number = 0;
+            int sum = 0;
+            for (int person = 0; person < people.entries; person++) {
+                if (placeOf(hour, person) == place) {
+                    number++;
+                    sum += brightnessOf(hour, person);
+                }
+            }
             return number > 0 && sum >= spots.first(place) * number && sum <= spots.second(place) * number;
         }
 

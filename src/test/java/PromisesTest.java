@@ -118,6 +118,10 @@ public final class PromisesTest {
     due("undo(2)", x.undo(2), BAD);
     tell(x, 0, "7c");
     due("person(0, 0)", x.person(0, 0), 7);
+    OwnWeather y = told("7o;3o", "09");
+    due("bright(1, 0)", y.bright(1, 0), 6);
+    for (int k = 0; k < 3; k++) y.undo(0);
+    due("bright(1, 0): alone again", y.bright(1, 0), 7);
   }
 
   private static void fault() {
@@ -397,7 +401,9 @@ public final class PromisesTest {
     OwnWeather x = told("5o;4o", "09;09");
     x.go(7, 0, 1);
     due("settles(): parted in hour 7", x.settles(), 7);
-    due("settles(): in the place, without places", told("5o;1o", "").settles(), 0);
+    due("settles(): one that changes", told("9o;5c", "09").settles(), 4);
+    due("settles(): one that changes", told("5c;9o", "09").settles(), 4);
+    due("settles(): in no place, without places", told("5o;1o", "").settles(), 0);
   }
 
   // ---- plans
@@ -422,8 +428,13 @@ public final class PromisesTest {
     y.go(2, 0, 0);
     due("send(1, 1, 1): sent in hour 0", y.send(1, 1, 1), 1);
     due("send(1, 2, 0): it goes again in hour 2", y.send(1, 2, 0), NONE);
+    OwnWeather w = told("9c;3c", "33;99");
+    goings(w, 1, 0, 1, 1, 1, 1);
+    due("send(1, 0, 1): who comes later may be sent", w.send(1, 0, 1), 1);
+    goings(w, 0, 1, 1);
+    due("send(1, 0, 0): the one who is there stays", w.send(1, 0, 0), NONE);
     OwnWeather z = told("9o;1o", "99;55");
-    due("send(1, 1, 0): not 5 yet or dark", z.send(1, 4, 1), 3);
+    due("send(1, 4, 1): both, and both are 5", z.send(1, 4, 1), 3);
     int[][] bad = {{2, 0, 0}, {-1, 0, 0}, {0, 24, 0}, {0, -1, 0}, {0, 0, 2}, {0, 0, -1}};
     for (int[] b : bad) due("a bad send", y.send(b[0], b[1], b[2]), BAD);
     due("send(0, 0, 0) of nobody", told("", "09").send(0, 0, 0), NONE);
@@ -607,10 +618,15 @@ public final class PromisesTest {
     // Lots of 2 by seed 0: of persons, then of places, hour by hour.
     y.type(1, ';');
     tell(y, 1, "09");
-    due("day(0, NONE)", y.day(0, NONE), hoursTogether(0));
-    due("day(-5, NONE)", y.day(-5, NONE), hoursTogether(-5));
+    for (int seed = -9; seed < 40; seed++) due("day(" + seed + ", NONE)", y.day(seed, NONE), hoursTogether(seed));
     due("day(2147483647, NONE)", y.day(Integer.MAX_VALUE, NONE), hoursTogether(Integer.MAX_VALUE));
     due("count(4): nothing was told", y.count(4), 0);
+    due("day(1, 0): in hour 23", told("9o;3c", "09").day(1, 0), 3);
+    OwnWeather w = told("0c;1c", "09");
+    goings(w, 0, 0, 4, 0, 1, 5);
+    due("day(1, NONE): lots are told behind goings", w.day(1, NONE), 24 - firstHourOfBoth(1));
+    goings(w, 23, 0, 4, 23, 1, 5);
+    due("day(1, NONE): a later hour counts", w.day(1, NONE), 23 - firstHourOfBoth(1));
     OwnWeather z = told("5o;6o", "");
     due("day(7, 1): no places", z.day(7, 1), 6);
     due("day(7, NONE): no places", z.day(7, NONE), 0);
@@ -618,6 +634,18 @@ public final class PromisesTest {
     due("day(7, -2)", z.day(7, -2), BAD);
     due("day(7, 0) of nobody", new OwnWeather().day(7, 0), BAD);
     due("day(7, NONE) of nobody", new OwnWeather().day(7, NONE), 0);
+  }
+
+  /** The first hour by which lots of 2 have moved both of two persons, with one place. */
+  private static int firstHourOfBoth(int seed) {
+    int lot = seed, moved = 0;
+    for (int h = 0; h < 24; h++) {
+      lot = lot * 1103515245 + 12345;
+      moved |= 1 << (lot >>> 16) % 2;
+      lot = lot * 1103515245 + 12345;
+      if (moved == 3) return h;
+    }
+    return 24;
   }
 
   /** In how many hours two dark calm ones, moved by lots between two places, are together. */
@@ -641,9 +669,10 @@ public final class PromisesTest {
     due("sheet(0, 0, 60)", x.sheet(0, 0, 60), 60);
     due("sheet(3, 2, 0)", x.sheet(3, 2, 0), 0);
     due("get(0, 0, 59)", x.get(0, 0, 59), 0);
-    x.lay(0, 0, 3, 9);
+    for (int i = 0; i < 60; i++) x.lay(0, 0, i, 9);
     due("sheet(0, 0, 5)", x.sheet(0, 0, 5), 5);
-    due("get(0, 0, 3) of the new row", x.get(0, 0, 3), 0);
+    x.sheet(0, 0, 60);
+    for (int i = 0; i < 60; i++) due("get(0, 0, " + i + ") of the new row", x.get(0, 0, i), 0);
     x.lay(0, 0, 3, 9);
     due("sheet(0, 0, 61)", x.sheet(0, 0, 61), BAD);
     due("sheet(4, 0, 1)", x.sheet(4, 0, 1), BAD);
@@ -801,9 +830,44 @@ public final class PromisesTest {
     for (long v : new long[] {1023, 1023, NONE, NONE, 0, 2, x.day(7, NONE), x.day(7, 0)}) h = 31 * h + v;
     due("digest()", x.digest(), h);
     due("digest() again", x.digest(), h);
-    long before = x.digest();
     x.sheet(0, 0, 3);
     x.get(0, 0, 9);
-    due("digest() after a finding", x.digest(), before);
+    due("digest() after a finding", x.digest(), h);
+    OwnWeather y = told("9o;2h;5c;1o;0o;7o;8h;3c", "47;02;79;36;55");
+    int[] more = {0, 3, 1, 0, 4, 2, 1, 5, 3, 1, 6, 4, 2, 0, 4, 3, 7, 3, 4, 2, 1, 6, 5, 4, 20, 1, 5};
+    for (int k = 0; k + 2 < more.length; k += 3) {
+      due("digest() with " + k / 3 + " goings", y.digest(), digestByCalls(y));
+      y.go(more[k], more[k + 1], more[k + 2]);
+    }
+    y.seen(1, 0, y.bright(1, 0));
+    due("digest() with one seen", y.digest(), digestByCalls(y));
+    y.fog(2, 4, 1);
+    due("digest() with fog", y.digest(), digestByCalls(y));
+    y.undo(1);
+    due("digest() with a faulty text", y.digest(), digestByCalls(y));
+  }
+
+  private static long sum = 0;
+
+  private static void mix(long... values) {
+    for (long v : values) sum = 31 * sum + v;
+  }
+
+  private static long digestByCalls(OwnWeather x) {
+    sum = 17;
+    for (int what = 0; what < 8; what++) mix(x.count(what));
+    mix(x.fault(0), x.fault(1));
+    for (int hour : new int[] {0, 1, 5, 23}) {
+      mix(x.met(hour));
+      for (int p = 0; p < x.count(0); p++) mix(x.where(hour, p), x.bright(hour, p));
+      for (int q = 0; q < x.count(1); q++) mix(x.crowd(hour, q), x.sky(hour, q, 0), x.sky(hour, q, 1));
+    }
+    for (int q = 0; q < x.count(1); q++) {
+      mix(x.spoilt(q), x.send(q, 3, 0), x.send(q, 3, 1), x.keep(q, 2, 5, 0), x.keep(q, 2, 5, 1));
+      mix(x.row(1, q, NONE), x.row(1, q, 0), x.news(5, q, 2, 0), x.news(5, q, 2, 1), x.roof(5, q, 0));
+    }
+    for (int p = 0; p < x.count(0); p++) mix(x.may(p));
+    mix(x.lightning(0), x.lightning(1), x.settles(), x.hid(), x.day(7, NONE), x.day(7, 0));
+    return sum;
   }
 }
