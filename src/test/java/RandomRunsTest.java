@@ -2,7 +2,7 @@ import java.util.Random;
 
 /** Runs of calls by a fixed seed on the class and on the model, whose answers must be alike. */
 public final class RandomRunsTest {
-  private static final int RUNS = 260, CALLS = 500;
+  private static final int RUNS = 200, CALLS = 480;
   private static final int KINDS = 37;
 
   private final Random random;
@@ -21,7 +21,8 @@ public final class RandomRunsTest {
   }
 
   private int play(int run) {
-    tellTexts();
+    tellText(0);
+    tellText(1);
     for (int k = 0; k < CALLS; k++) {
       one();
       if (got != want) {
@@ -49,23 +50,28 @@ public final class RandomRunsTest {
     want = b;
   }
 
-  private void tellTexts() {
-    int n = random.nextInt(9), m = random.nextInt(7), span = 1 + random.nextInt(10);
-    StringBuilder people = new StringBuilder(), places = new StringBuilder();
-    for (int p = 0; p < n; p++)
-      people.append(p == 0 ? "" : ";").append(random.nextInt(span)).append("ooohhc".charAt(random.nextInt(6)));
-    for (int q = 0; q < m; q++) {
-      int low = random.nextInt(10);
-      places.append(q == 0 ? "" : ";").append(low).append(low + random.nextInt(10 - low));
+  /** Mostly a number of what there is, if there is any. */
+  private int of(int there, int most) { return some(there > 0 && random.nextInt(8) != 0 ? there : most); }
+
+  private void tellText(int text) {
+    int n = random.nextInt(10) == 0 ? 0 : 2 + random.nextInt(text == 0 ? 7 : 5), span = 1 + random.nextInt(10);
+    StringBuilder s = new StringBuilder();
+    for (int i = 0; i < n; i++) {
+      int low = random.nextInt(text == 0 ? span : 10);
+      s.append(i == 0 ? "" : ";").append(low);
+      if (text == 0) s.append("ooohhc".charAt(random.nextInt(6)));
+      else s.append(low + random.nextInt(10 - low));
     }
-    for (char b : people.toString().toCharArray()) { x.type(0, b); y.type(0, b); }
-    for (char b : places.toString().toCharArray()) { x.type(1, b); y.type(1, b); }
+    answer("wipe", x.wipe(text), y.wipe(text), text);
+    for (char b : s.toString().toCharArray()) {
+      if (got == want) answer("type", x.type(text, b), y.type(text, b), text, (int) b);
+    }
   }
 
   private void one() {
     int kind = random.nextInt(KINDS);
-    if (kind < 3 && random.nextInt(4) != 0) {
-      tellNewText();
+    if (kind < 3) {
+      texts();
     } else if (kind < 10) {
       people(kind);
     } else if (kind < 18) {
@@ -74,7 +80,7 @@ public final class RandomRunsTest {
       plans(kind);
     } else if (kind < 36) {
       sheets(kind);
-    } else if (random.nextInt(25) == 0) {
+    } else if (random.nextInt(15) == 0) {
       answer("digest", x.digest(), y.digest());
     } else {
       int what = some(9);
@@ -82,38 +88,32 @@ public final class RandomRunsTest {
     }
   }
 
-  /** Undoes and types a little, so that texts are faulty for a while only. */
-  private void tellNewText() {
-    int t = random.nextInt(2), fault = y.fault(t);
-    if (fault == OwnWeather.NONE && random.nextInt(3) != 0) {
-      answer("fault", x.fault(t), fault, t);
-    } else if (fault != OwnWeather.NONE && random.nextInt(2) == 0) {
-      answer("undo", x.undo(t), y.undo(t), t);
-    } else {
-      int b = "0123456789ohc;".charAt(random.nextInt(14));
-      answer("type", x.type(t, b), y.type(t, b), t, b);
+  /** Types a little, and soon tells a faulty text anew. */
+  private void texts() {
+    int t = random.nextInt(2);
+    boolean isWell = y.fault(t) == OwnWeather.NONE;
+    int some = some(2), b = random.nextInt(8) == 0 ? some(256) : "0123456789ohc;".charAt(random.nextInt(14));
+    switch (random.nextInt(isWell ? 24 : 4)) {
+      case 0 -> tellText(t);
+      case 1 -> answer("type", x.type(some, b), y.type(some, b), some, b);
+      case 2 -> answer("undo", x.undo(some), y.undo(some), some);
+      default -> answer("fault", x.fault(some), y.fault(some), some);
     }
   }
 
   private void people(int kind) {
-    int a = some(2), h = some(24), p = some(8), q = some(6), s = some(4), b = random.nextInt(12) == 0 ? some(256) : 'o';
+    int a = some(2), h = some(24), p = of(x.count(0), 8), q = of(x.count(1), 6), s = some(4);
     switch (kind) {
-      case 0 -> answer("type", x.type(a, b), y.type(a, b), a, b);
-      case 1 -> {
-        if (random.nextInt(20) == 0) answer("wipe", x.wipe(a), y.wipe(a), a);
-        else answer("fault", x.fault(a), y.fault(a), a);
-      }
-      case 2 -> answer("undo", x.undo(a), y.undo(a), a);
       case 3 -> answer("person", x.person(p, a), y.person(p, a), p, a);
       case 4 -> answer("place", x.place(q, a), y.place(q, a), q, a);
-      case 5, 6 -> answer("go", x.go(h, p, q), y.go(h, p, q), h, p, q);
-      case 7, 8 -> answer("back", x.back(), y.back());
+      case 5, 6, 7 -> answer("go", x.go(h, p, q), y.go(h, p, q), h, p, q);
+      case 8 -> answer("back", x.back(), y.back());
       default -> answer("read", x.read(s), y.read(s), s);
     }
   }
 
   private void hours(int kind) {
-    int h = some(24), p = some(8), q = some(6), what = some(2);
+    int h = some(24), p = of(x.count(0), 8), q = of(x.count(1), 6), what = some(2);
     switch (kind) {
       case 10 -> answer("where", x.where(h, p), y.where(h, p), h, p);
       case 11 -> answer("bright", x.bright(h, p), y.bright(h, p), h, p);
@@ -127,7 +127,8 @@ public final class RandomRunsTest {
   }
 
   private void plans(int kind) {
-    int h = some(24), p = some(8), q = some(6), what = some(2), b = some(10), c = some(17), seed = random.nextInt();
+    int h = some(24), p = of(x.count(0), 8), q = of(x.count(1), 6), what = some(2), b = some(10), c = some(17);
+    int seed = random.nextInt();
     switch (kind) {
       case 18 -> answer("send", x.send(q, h, what), y.send(q, h, what), q, h, what);
       case 19 -> answer("keep", x.keep(q, h, b, what), y.keep(q, h, b, what), q, h, b, what);
@@ -136,19 +137,19 @@ public final class RandomRunsTest {
         answer("row", x.row(h, q, i), y.row(h, q, i), h, q, i);
       }
       case 21 -> {
-        int as = random.nextInt(4) == 0 ? b : Math.max(y.bright(h, p), 0);
+        int as = random.nextInt(6) == 0 ? b : Math.max(y.bright(h, p), 0);
         answer("seen", x.seen(h, p, as), y.seen(h, p, as), h, p, as);
       }
       case 22 -> answer("fog", x.fog(h, q, what), y.fog(h, q, what), h, q, what);
       case 23 -> {
-        if (random.nextInt(5) == 0) answer("forget", x.forget(what), y.forget(what), what);
+        if (random.nextInt(2) == 0) answer("forget", x.forget(what), y.forget(what), what);
         else answer("hid", x.hid(), y.hid());
       }
       case 24 -> answer("may", x.may(p), y.may(p), p);
       case 25 -> answer("hid", x.hid(), y.hid());
       case 26 -> answer("news", x.news(c, q, h, what), y.news(c, q, h, what), c, q, h, what);
       case 27 -> {
-        int from = random.nextInt(5) == 0 ? some(24) : 20 + random.nextInt(4);
+        int from = random.nextInt(5) == 0 ? some(24) : 18 + random.nextInt(6);
         answer("roof", x.roof(c, q, from), y.roof(c, q, from), c, q, from);
       }
       default -> {
@@ -159,12 +160,12 @@ public final class RandomRunsTest {
   }
 
   private void sheets(int kind) {
-    int s = some(4), t = some(4), form = formOf(s), i = some(60), j = some(60), h = some(24), n = some(61);
+    int s = some(4), t = some(4), form = formOf(s), i = some(30), j = some(30), h = some(24), n = some(61);
     int v = random.nextInt(4) == 0 ? random.nextInt() : random.nextInt(9);
     switch (kind) {
       case 29 -> {
-        if (random.nextInt(4) != 0) { answer("count", x.count(8), y.count(8), 8); break; }
-        int f = some(3);
+        if (random.nextInt(3) == 0) { answer("count", x.count(8), y.count(8), 8); break; }
+        int f = random.nextInt(3) == 0 ? some(3) : 1;
         answer("sheet", x.sheet(s, f, n), y.sheet(s, f, n), s, f, n);
       }
       case 30 -> {
