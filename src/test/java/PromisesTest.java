@@ -14,27 +14,6 @@ public final class PromisesTest {
     }
   }
 
-  private static OwnWeather told(String people, String places) {
-    OwnWeather x = new OwnWeather();
-    tell(x, 0, people);
-    tell(x, 1, places);
-    return x;
-  }
-
-  private static void tell(OwnWeather x, int text, String bytes) {
-    for (char b : bytes.toCharArray()) x.type(text, b);
-  }
-
-  private static int faultOf(int text, String bytes) {
-    OwnWeather x = new OwnWeather();
-    tell(x, text, bytes);
-    return x.fault(text);
-  }
-
-  private static void goings(OwnWeather x, int... triples) {
-    for (int i = 0; i + 2 < triples.length; i += 3) x.go(triples[i], triples[i + 1], triples[i + 2]);
-  }
-
   public static void main(String[] args) {
     Runnable[] promises = {
       PromisesTest::newObject, PromisesTest::type, PromisesTest::wipe, PromisesTest::undo, PromisesTest::fault,
@@ -93,7 +72,7 @@ public final class PromisesTest {
   }
 
   private static void wipe() {
-    OwnWeather x = told("4o;5c", "12");
+    OwnWeather x = Checks.told("4o;5c", "12");
     due("wipe(-1)", x.wipe(-1), BAD);
     due("wipe(2)", x.wipe(2), BAD);
     due("count(0)", x.count(0), 2);
@@ -107,7 +86,7 @@ public final class PromisesTest {
   }
 
   private static void undo() {
-    OwnWeather x = told("4o;", "12");
+    OwnWeather x = Checks.told("4o;", "12");
     due("undo(0)", x.undo(0), 2);
     due("count(0)", x.count(0), 1);
     due("undo(0)", x.undo(0), 1);
@@ -116,9 +95,9 @@ public final class PromisesTest {
     due("undo(1)", x.undo(1), 1);
     due("undo(-1)", x.undo(-1), BAD);
     due("undo(2)", x.undo(2), BAD);
-    tell(x, 0, "7c");
+    Checks.tell(x, 0, "7c");
     due("person(0, 0)", x.person(0, 0), 7);
-    OwnWeather y = told("7o;3o", "09");
+    OwnWeather y = Checks.told("7o;3o", "09");
     due("bright(1, 0)", y.bright(1, 0), 6);
     for (int k = 0; k < 3; k++) y.undo(0);
     due("bright(1, 0): alone again", y.bright(1, 0), 7);
@@ -128,32 +107,32 @@ public final class PromisesTest {
     due("fault(-1)", new OwnWeather().fault(-1), BAD);
     due("fault(2)", new OwnWeather().fault(2), BAD);
     String[] well = {"", "0o", "9h;0c", "1o;1o;1o;1o;1o;1o;1o;1o"};
-    for (String s : well) due(s, faultOf(0, s), NONE);
-    due("5", faultOf(0, "5"), 1);
-    due("o", faultOf(0, "o"), 0);
-    due(";", faultOf(0, ";"), 0);
-    due("55", faultOf(0, "55"), 1);
-    due("5x", faultOf(0, "5x"), 1);
-    due("5O", faultOf(0, "5O"), 1);
-    due("5o,", faultOf(0, "5o,"), 2);
-    due("5o5o", faultOf(0, "5o5o"), 2);
-    due("5o;", faultOf(0, "5o;"), 3);
-    due("5o;;", faultOf(0, "5o;;"), 3);
-    due("5o;5", faultOf(0, "5o;5"), 4);
-    due("5o;5x;", faultOf(0, "5o;5x;"), 4);
-    due("5 o", faultOf(0, "5 o"), 1);
-    due("/o", faultOf(0, "/o"), 0);
-    due(":o", faultOf(0, ":o"), 0);
+    for (String s : well) due(s, Checks.faultOf(0, s), NONE);
+    due("5", Checks.faultOf(0, "5"), 1);
+    due("o", Checks.faultOf(0, "o"), 0);
+    due(";", Checks.faultOf(0, ";"), 0);
+    due("55", Checks.faultOf(0, "55"), 1);
+    due("5x", Checks.faultOf(0, "5x"), 1);
+    due("5O", Checks.faultOf(0, "5O"), 1);
+    due("5o,", Checks.faultOf(0, "5o,"), 2);
+    due("5o5o", Checks.faultOf(0, "5o5o"), 2);
+    due("5o;", Checks.faultOf(0, "5o;"), 3);
+    due("5o;;", Checks.faultOf(0, "5o;;"), 3);
+    due("5o;5", Checks.faultOf(0, "5o;5"), 4);
+    due("5o;5x;", Checks.faultOf(0, "5o;5x;"), 4);
+    due("5 o", Checks.faultOf(0, "5 o"), 1);
+    due("/o", Checks.faultOf(0, "/o"), 0);
+    due(":o", Checks.faultOf(0, ":o"), 0);
     String[] wellPlaces = {"", "00", "09", "55;12", "00;11;22;33;44;99"};
-    for (String s : wellPlaces) due(s, faultOf(1, s), NONE);
-    due("5", faultOf(1, "5"), 1);
-    due("54", faultOf(1, "54"), 1);
-    due("5o", faultOf(1, "5o"), 1);
-    due("x5", faultOf(1, "x5"), 0);
-    due("455", faultOf(1, "455"), 2);
-    due("45;", faultOf(1, "45;"), 3);
-    due("45;21", faultOf(1, "45;21"), 4);
-    OwnWeather x = told("5o;5x", "45;2");
+    for (String s : wellPlaces) due(s, Checks.faultOf(1, s), NONE);
+    due("5", Checks.faultOf(1, "5"), 1);
+    due("54", Checks.faultOf(1, "54"), 1);
+    due("5o", Checks.faultOf(1, "5o"), 1);
+    due("x5", Checks.faultOf(1, "x5"), 0);
+    due("455", Checks.faultOf(1, "455"), 2);
+    due("45;", Checks.faultOf(1, "45;"), 3);
+    due("45;21", Checks.faultOf(1, "45;21"), 4);
+    OwnWeather x = Checks.told("5o;5x", "45;2");
     due("count(0) of a faulty text", x.count(0), 0);
     due("count(1) of a faulty text", x.count(1), 0);
     due("count(2) of a faulty text", x.count(2), 5);
@@ -161,7 +140,7 @@ public final class PromisesTest {
   }
 
   private static void person() {
-    OwnWeather x = told("7o;0h;9c", "");
+    OwnWeather x = Checks.told("7o;0h;9c", "");
     int[] brights = {7, 0, 9};
     for (int p = 0; p < 3; p++) {
       due("person(" + p + ", 0)", x.person(p, 0), brights[p]);
@@ -176,7 +155,7 @@ public final class PromisesTest {
   }
 
   private static void place() {
-    OwnWeather x = told("", "47;09;33");
+    OwnWeather x = Checks.told("", "47;09;33");
     int[] lows = {4, 0, 3}, highs = {7, 9, 3};
     for (int q = 0; q < 3; q++) {
       due("place(" + q + ", 0)", x.place(q, 0), lows[q]);
@@ -191,7 +170,7 @@ public final class PromisesTest {
   }
 
   private static void go() {
-    OwnWeather x = told("5o", "09;09");
+    OwnWeather x = Checks.told("5o", "09;09");
     int[][] bad = {{-1, 0, 0}, {24, 0, 0}, {0, -1, 0}, {0, 8, 0}, {0, 0, -1}, {0, 0, 6}};
     for (int[] g : bad) due("a bad going", x.go(g[0], g[1], g[2]), BAD);
     due("count(4)", x.count(4), 0);
@@ -206,8 +185,8 @@ public final class PromisesTest {
   }
 
   private static void back() {
-    OwnWeather x = told("5o", "09;09;09");
-    goings(x, 5, 0, 1, 2, 0, 2);
+    OwnWeather x = Checks.told("5o", "09;09;09");
+    Checks.goings(x, 5, 0, 1, 2, 0, 2);
     due("where(3, 0)", x.where(3, 0), 2);
     due("back()", x.back(), 1);
     due("where(3, 0)", x.where(3, 0), 0);
@@ -219,7 +198,7 @@ public final class PromisesTest {
   }
 
   private static void read() {
-    OwnWeather x = told("5o;6o", "09;09;09");
+    OwnWeather x = Checks.told("5o;6o", "09;09;09");
     due("read(-1)", x.read(-1), BAD);
     due("read(4)", x.read(4), BAD);
     due("read(0)", x.read(0), NULL);
@@ -254,20 +233,20 @@ public final class PromisesTest {
   // ---- hours
 
   private static void where() {
-    OwnWeather x = told("5o;6o", "09;09;09");
+    OwnWeather x = Checks.told("5o;6o", "09;09;09");
     due("where(0, 0)", x.where(0, 0), 0);
-    goings(x, 5, 0, 1, 3, 0, 2, 5, 1, 1, 5, 1, 2);
+    Checks.goings(x, 5, 0, 1, 3, 0, 2, 5, 1, 1, 5, 1, 2);
     int[] due0 = {0, 0, 0, 2, 2, 1, 1};
     for (int h = 0; h < due0.length; h++) due("where(" + h + ", 0)", x.where(h, 0), due0[h]);
     due("where(4, 1)", x.where(4, 1), 0);
     due("where(5, 1): the last told", x.where(5, 1), 2);
     due("where(23, 1)", x.where(23, 1), 2);
-    goings(x, 4, 1, 1);
+    Checks.goings(x, 4, 1, 1);
     due("where(4, 1)", x.where(4, 1), 1);
     due("where(5, 1): the latest hour", x.where(5, 1), 2);
-    goings(x, 6, 0, 3);
+    Checks.goings(x, 6, 0, 3);
     due("where(6, 0): no such place", x.where(6, 0), NONE);
-    tell(x, 1, ";09");
+    Checks.tell(x, 1, ";09");
     due("where(6, 0): now there is", x.where(6, 0), 3);
     due("where(24, 0)", x.where(24, 0), BAD);
     due("where(-1, 0)", x.where(-1, 0), BAD);
@@ -278,7 +257,7 @@ public final class PromisesTest {
   }
 
   private static void bright() {
-    OwnWeather x = told("8o;2h;4c", "45;09");
+    OwnWeather x = Checks.told("8o;2h;4c", "45;09");
     int[][] due = {{8, 2}, {7, 3}, {6, 4}, {5, 5}, {4, 4}, {4, 4}};
     for (int h = 0; h < due.length; h++) {
       due("bright(" + h + ", 0)", x.bright(h, 0), due[h][0]);
@@ -294,11 +273,11 @@ public final class PromisesTest {
     x.go(1, 0, 5);
     due("bright(9, 0): nowhere, each by itself", x.bright(9, 0), 7);
     due("bright(9, 1): nowhere, each by itself", x.bright(9, 1), 3);
-    OwnWeather y = told("1o;1c;9h", "09");
+    OwnWeather y = Checks.told("1o;1c;9h", "09");
     due("bright(1, 0): lightning", y.bright(1, 0), 0);
     due("bright(1, 1): calm", y.bright(1, 1), 1);
     due("bright(1, 2): lightning", y.bright(1, 2), 0);
-    OwnWeather z = told("0o;0o", "");
+    OwnWeather z = Checks.told("0o;0o", "");
     due("bright(1, 0): no place, no lightning", z.bright(1, 0), 0);
     due("bright(24, 0)", x.bright(24, 0), BAD);
     due("bright(-1, 0)", x.bright(-1, 0), BAD);
@@ -307,9 +286,9 @@ public final class PromisesTest {
   }
 
   private static void crowd() {
-    OwnWeather x = told("5o;6o;7o;8o", "09;09;09");
+    OwnWeather x = Checks.told("5o;6o;7o;8o", "09;09;09");
     due("crowd(0, 0)", x.crowd(0, 0), 15);
-    goings(x, 2, 1, 1, 2, 3, 1, 4, 3, 5);
+    Checks.goings(x, 2, 1, 1, 2, 3, 1, 4, 3, 5);
     due("crowd(1, 0)", x.crowd(1, 0), 15);
     due("crowd(2, 0)", x.crowd(2, 0), 5);
     due("crowd(2, 1)", x.crowd(2, 1), 10);
@@ -322,7 +301,7 @@ public final class PromisesTest {
   }
 
   private static void sky() {
-    OwnWeather x = told("8o;2h;4c", "45;09");
+    OwnWeather x = Checks.told("8o;2h;4c", "45;09");
     due("sky(0, 0, 0)", x.sky(0, 0, 0), 14);
     due("sky(0, 0, 1)", x.sky(0, 0, 1), 3);
     due("sky(4, 0, 0)", x.sky(4, 0, 0), 4);
@@ -333,7 +312,7 @@ public final class PromisesTest {
     x.go(0, 1, 0);
     due("sky(0, 1, 0) of nobody", x.sky(0, 1, 0), NOT_LONG);
     due("sky(0, 1, 2) of nobody", x.sky(0, 1, 2), BAD_LONG);
-    OwnWeather y = told("0c;0c", "09");
+    OwnWeather y = Checks.told("0c;0c", "09");
     due("sky(0, 0, 0) of 0", y.sky(0, 0, 0), 0);
     due("sky(0, 0, 1) of 0", y.sky(0, 0, 1), 1);
     due("sky(24, 0, 0)", x.sky(24, 0, 0), BAD_LONG);
@@ -344,14 +323,14 @@ public final class PromisesTest {
   }
 
   private static void met() {
-    OwnWeather x = told("8o;2h;4c", "45;09");
+    OwnWeather x = Checks.told("8o;2h;4c", "45;09");
     due("met(0): 14 by 3 from 4 to 5", x.met(0), 1);
     due("met(4): 4 by 1 from 4 to 5", x.met(4), 1);
     x.wipe(1);
-    tell(x, 1, "55;09");
+    Checks.tell(x, 1, "55;09");
     due("met(0): less than 5", x.met(0), 0);
     x.wipe(1);
-    tell(x, 1, "04;09");
+    Checks.tell(x, 1, "04;09");
     due("met(0): more than 4", x.met(0), 0);
     due("met(4): just 4", x.met(4), 1);
     x.go(1, 0, 1);
@@ -362,54 +341,54 @@ public final class PromisesTest {
   }
 
   private static void spoilt() {
-    OwnWeather x = told("8o;2h;4c", "04;09;99");
+    OwnWeather x = Checks.told("8o;2h;4c", "04;09;99");
     due("spoilt(0): till it is 4", x.spoilt(0), 15);
     due("spoilt(1): nobody is there", x.spoilt(1), 0);
-    goings(x, 20, 2, 2, 22, 2, 1);
+    Checks.goings(x, 20, 2, 2, 22, 2, 1);
     due("spoilt(2): hours 20 and 21", x.spoilt(2), 3 << 20);
     due("spoilt(1): it has its weather", x.spoilt(1), 0);
     due("spoilt(3)", x.spoilt(3), BAD);
     due("spoilt(-1)", x.spoilt(-1), BAD);
-    due("spoilt(0): all hours", told("9c", "08").spoilt(0), (1 << 24) - 1);
+    due("spoilt(0): all hours", Checks.told("9c", "08").spoilt(0), (1 << 24) - 1);
   }
 
   private static void lightning() {
-    OwnWeather x = told("1c;0o;9o", "09;09;09");
+    OwnWeather x = Checks.told("1c;0o;9o", "09;09;09");
     due("lightning(0)", x.lightning(0), 0);
     due("lightning(1)", x.lightning(1), 0);
-    goings(x, 0, 0, 1, 0, 1, 2);
+    Checks.goings(x, 0, 0, 1, 0, 1, 2);
     due("lightning(0): each alone", x.lightning(0), NONE);
     due("lightning(1): each alone", x.lightning(1), NONE);
-    goings(x, 23, 1, 1);
+    Checks.goings(x, 23, 1, 1);
     due("lightning(0): in hour 23", x.lightning(0), 23);
     due("lightning(1): in hour 23", x.lightning(1), 1);
-    OwnWeather y = told("2c;1c;0c;0c;1c", "09;09;09");
-    goings(y, 0, 1, 2, 0, 2, 2, 0, 3, 1, 0, 4, 1);
+    OwnWeather y = Checks.told("2c;1c;0c;0c;1c", "09;09;09");
+    Checks.goings(y, 0, 1, 2, 0, 2, 2, 0, 3, 1, 0, 4, 1);
     due("lightning(0)", y.lightning(0), 0);
     due("lightning(1): the least place", y.lightning(1), 1);
-    due("lightning(0): 2 is not dark", told("2c;1c", "09").lightning(0), NONE);
-    due("lightning(0): nowhere", told("0c;0c", "").lightning(0), NONE);
+    due("lightning(0): 2 is not dark", Checks.told("2c;1c", "09").lightning(0), NONE);
+    due("lightning(0): nowhere", Checks.told("0c;0c", "").lightning(0), NONE);
     due("lightning(2)", x.lightning(2), BAD);
     due("lightning(-1)", x.lightning(-1), BAD);
   }
 
   private static void settles() {
-    due("settles()", told("8o;2h;4c", "45").settles(), 4);
-    due("settles(): at once", told("5o;5o", "09").settles(), 0);
+    due("settles()", Checks.told("8o;2h;4c", "45").settles(), 4);
+    due("settles(): at once", Checks.told("5o;5o", "09").settles(), 0);
     due("settles(): nobody", new OwnWeather().settles(), 0);
-    due("settles(): they swap for ever", told("5o;4o", "09").settles(), 23);
-    OwnWeather x = told("5o;4o", "09;09");
+    due("settles(): they swap for ever", Checks.told("5o;4o", "09").settles(), 23);
+    OwnWeather x = Checks.told("5o;4o", "09;09");
     x.go(7, 0, 1);
     due("settles(): parted in hour 7", x.settles(), 7);
-    due("settles(): one that changes", told("9o;5c", "09").settles(), 4);
-    due("settles(): one that changes", told("5c;9o", "09").settles(), 4);
-    due("settles(): in no place, without places", told("5o;1o", "").settles(), 0);
+    due("settles(): one that changes", Checks.told("9o;5c", "09").settles(), 4);
+    due("settles(): one that changes", Checks.told("5c;9o", "09").settles(), 4);
+    due("settles(): in no place, without places", Checks.told("5o;1o", "").settles(), 0);
   }
 
   // ---- plans
 
   private static void send() {
-    OwnWeather x = told("9c;1c;5c;9c;4c", "09;77;49;89");
+    OwnWeather x = Checks.told("9c;1c;5c;9c;4c", "09;77;49;89");
     due("send(0, 0, 0): it has it", x.send(0, 0, 0), 0);
     due("send(0, 0, 1): it has it", x.send(0, 0, 1), 0);
     due("send(1, 0, 0): 9 and 5", x.send(1, 0, 0), 2);
@@ -422,26 +401,26 @@ public final class PromisesTest {
     due("send(3, 0, 0): who is there is there", x.send(3, 0, 0), 0);
     x.go(0, 0, 1);
     due("send(1, 0, 1): of those not there", x.send(1, 0, 1), 4);
-    OwnWeather y = told("9c;3c", "33;99");
+    OwnWeather y = Checks.told("9c;3c", "33;99");
     due("send(0, 0, 0): none can be kept from it", y.send(0, 0, 0), NONE);
     due("send(0, 0, 1)", y.send(0, 0, 1), NONE);
     y.go(2, 0, 0);
     due("send(1, 1, 1): sent in hour 0", y.send(1, 1, 1), 1);
     due("send(1, 2, 0): it goes again in hour 2", y.send(1, 2, 0), NONE);
-    OwnWeather w = told("9c;3c", "33;99");
-    goings(w, 1, 0, 1, 1, 1, 1);
+    OwnWeather w = Checks.told("9c;3c", "33;99");
+    Checks.goings(w, 1, 0, 1, 1, 1, 1);
     due("send(1, 0, 1): who comes later may be sent", w.send(1, 0, 1), 1);
-    goings(w, 0, 1, 1);
+    Checks.goings(w, 0, 1, 1);
     due("send(1, 0, 0): the one who is there stays", w.send(1, 0, 0), NONE);
-    OwnWeather z = told("9o;1o", "99;55");
+    OwnWeather z = Checks.told("9o;1o", "99;55");
     due("send(1, 4, 1): both, and both are 5", z.send(1, 4, 1), 3);
     int[][] bad = {{2, 0, 0}, {-1, 0, 0}, {0, 24, 0}, {0, -1, 0}, {0, 0, 2}, {0, 0, -1}};
     for (int[] b : bad) due("a bad send", y.send(b[0], b[1], b[2]), BAD);
-    due("send(0, 0, 0) of nobody", told("", "09").send(0, 0, 0), NONE);
+    due("send(0, 0, 0) of nobody", Checks.told("", "09").send(0, 0, 0), NONE);
   }
 
   private static void keep() {
-    OwnWeather x = told("1c;9c;5c;1c;9c", "09;09");
+    OwnWeather x = Checks.told("1c;9c;5c;1c;9c", "09;09");
     due("keep(0, 0, 5, 0): as it is", x.keep(0, 0, 5, 0), 0);
     due("keep(0, 0, 5, 1): as it is", x.keep(0, 0, 5, 1), 0);
     due("keep(0, 0, 6, 0)", x.keep(0, 0, 6, 0), 1);
@@ -455,7 +434,7 @@ public final class PromisesTest {
     due("keep(0, 3, 9, 1)", x.keep(0, 3, 9, 1), NONE);
     due("keep(0, 3, 5, 1)", x.keep(0, 3, 5, 1), 9);
     due("keep(1, 3, 9, 0)", x.keep(1, 3, 9, 0), 0);
-    OwnWeather y = told("8o;2h;4c", "45");
+    OwnWeather y = Checks.told("8o;2h;4c", "45");
     due("keep(0, 3, 5, 1): how bright they are then", y.keep(0, 3, 5, 1), 4);
     int[][] bad = {{2, 0, 0, 0}, {-1, 0, 0, 0}, {0, 24, 0, 0}, {0, -1, 0, 0}, {0, 0, 10, 0}, {0, 0, -1, 0},
         {0, 0, 0, 2}, {0, 0, 0, -1}};
@@ -463,14 +442,14 @@ public final class PromisesTest {
   }
 
   private static void row() {
-    OwnWeather x = told("5o;1o;5o;9c", "09;09");
+    OwnWeather x = Checks.told("5o;1o;5o;9c", "09;09");
     int[] rising = {1, 0, 2, 3, NONE, NONE, NONE, NONE};
     for (int i = 0; i < 8; i++) due("row(0, 0, " + i + ")", x.row(0, 0, i), rising[i]);
     due("row(0, 0, NONE)", x.row(0, 0, NONE), 8);
     due("row(1, 0, NONE)", x.row(1, 0, NONE), 7);
     due("row(0, 1, NONE) of none", x.row(0, 1, NONE), 0);
     due("row(0, 1, 0) of none", x.row(0, 1, 0), NONE);
-    OwnWeather y = told("9c;1c;5c;9c;1c", "09;09");
+    OwnWeather y = Checks.told("9c;1c;5c;9c;1c", "09;09");
     int[] falling = {0, 3, 2, 1, 4};
     for (int i = 0; i < 5; i++) due("row(0, 0, " + i + ")", y.row(0, 0, i), falling[i]);
     y.go(4, 0, 1);
@@ -478,7 +457,7 @@ public final class PromisesTest {
     due("row(4, 1, 0)", y.row(4, 1, 0), 0);
     due("row(4, 1, 1)", y.row(4, 1, 1), NONE);
     due("row(4, 1, NONE): alone", y.row(4, 1, NONE), 0);
-    OwnWeather z = told("5c;5c;5c", "09");
+    OwnWeather z = Checks.told("5c;5c;5c", "09");
     for (int i = 0; i < 3; i++) due("row(0, 0, " + i + ") of like ones", z.row(0, 0, i), i);
     int[][] bad = {{24, 0, 0}, {-1, 0, 0}, {0, 2, 0}, {0, -1, 0}, {0, 0, 8}, {0, 0, -2}};
     for (int[] b : bad) due("a bad row", x.row(b[0], b[1], b[2]), BAD);
@@ -525,7 +504,7 @@ public final class PromisesTest {
   }
 
   private static void may() {
-    OwnWeather x = told("5o;5c", "09;09");
+    OwnWeather x = Checks.told("5o;5c", "09;09");
     due("may(0): nothing was seen", x.may(0), 1023);
     x.seen(1, 0, 4);
     due("may(0): 3 and one more", x.may(0), 1 << 3);
@@ -537,16 +516,16 @@ public final class PromisesTest {
     x.forget(0);
     x.seen(23, 2, 0);
     due("may(0): nobody such was there", x.may(0), 0);
-    tell(x, 0, ";0c");
+    Checks.tell(x, 0, ";0c");
     due("may(2): now there is", x.may(2), 1);
     due("may(3)", x.may(3), BAD);
     due("may(-1)", x.may(-1), BAD);
   }
 
   private static void hid() {
-    OwnWeather x = told("5o;6h;7c", "09;09");
+    OwnWeather x = Checks.told("5o;6h;7c", "09;09");
     due("hid(): nothing was told", x.hid(), 7);
-    goings(x, 2, 1, 1, 2, 2, 4);
+    Checks.goings(x, 2, 1, 1, 2, 2, 4);
     x.fog(0, 0, 1);
     due("hid()", x.hid(), 7);
     x.fog(2, 0, 0);
@@ -561,12 +540,12 @@ public final class PromisesTest {
     x.forget(1);
     x.fog(5, 4, 0);
     due("hid(): not at no such place", x.hid(), 7);
-    due("hid() of nobody", told("", "09").hid(), 0);
+    due("hid() of nobody", Checks.told("", "09").hid(), 0);
   }
 
   private static void news() {
-    OwnWeather x = told("5o;2h;9c", "09;55;00");
-    goings(x, 0, 0, 1, 0, 1, 2);
+    OwnWeather x = Checks.told("5o;2h;9c", "09;55;00");
+    Checks.goings(x, 0, 0, 1, 0, 1, 2);
     due("news(4, 1, 0, 0): it has none", x.news(4, 1, 0, 0), 3);
     due("news(4, 1, 0, 1)", x.news(4, 1, 0, 1), 4);
     due("news(6, 2, 0, 0): 2 is 0", x.news(6, 2, 0, 0), 3);
@@ -581,10 +560,10 @@ public final class PromisesTest {
     x.go(0, 2, 0);
     x.go(0, 0, 0);
     due("news(1, 1, 0, 0) of nobody", x.news(1, 1, 0, 0), 0);
-    OwnWeather y = told("9o;9o;9o;9o;9o;9o;9o;9o", "99");
+    OwnWeather y = Checks.told("9o;9o;9o;9o;9o;9o;9o;9o", "99");
     due("news(1, 0, 0, 0)", y.news(1, 0, 0, 0), 2562890625L);
     due("news(1, 0, 0, 1)", y.news(1, 0, 0, 1), 4294967296L);
-    OwnWeather z = told("9o;3c", "55;08");
+    OwnWeather z = Checks.told("9o;3c", "55;08");
     due("news(8, 0, 1, 1): 8 and 3, or 5 and 3", z.news(8, 0, 1, 1), 1);
     due("news(8, 0, 3, 0): 6 and 3, or 3 and 3", z.news(8, 0, 3, 0), 0);
     due("news(8, 0, 2, 0): 7 and 3, or 4 and 3", z.news(8, 0, 2, 0), 1);
@@ -595,7 +574,7 @@ public final class PromisesTest {
   }
 
   private static void roof() {
-    OwnWeather x = told("9o;3c", "34;09");
+    OwnWeather x = Checks.told("9o;3c", "34;09");
     due("roof(0, 0, 0): 5 and 3", x.roof(0, 0, 0), 4);
     due("roof(16, 0, 0): 5 and 3", x.roof(16, 0, 0), 1);
     due("roof(8, 0, 0): in either case", x.roof(8, 0, 0), 4);
@@ -609,25 +588,25 @@ public final class PromisesTest {
   }
 
   private static void day() {
-    OwnWeather x = told("6o", "09");
+    OwnWeather x = Checks.told("6o", "09");
     due("day(1, 0): alone", x.day(1, 0), 6);
     due("day(1, NONE): alone", x.day(1, NONE), 0);
-    OwnWeather y = told("0c;1c", "09");
+    OwnWeather y = Checks.told("0c;1c", "09");
     due("day(1, NONE): in all hours", y.day(1, NONE), 24);
     due("day(1, 1)", y.day(1, 1), 1);
     // Lots of 2 by seed 0: of persons, then of places, hour by hour.
     y.type(1, ';');
-    tell(y, 1, "09");
+    Checks.tell(y, 1, "09");
     for (int seed = -9; seed < 40; seed++) due("day(" + seed + ", NONE)", y.day(seed, NONE), hoursTogether(seed));
     due("day(2147483647, NONE)", y.day(Integer.MAX_VALUE, NONE), hoursTogether(Integer.MAX_VALUE));
     due("count(4): nothing was told", y.count(4), 0);
-    due("day(1, 0): in hour 23", told("9o;3c", "09").day(1, 0), 3);
-    OwnWeather w = told("0c;1c", "09");
-    goings(w, 0, 0, 4, 0, 1, 5);
+    due("day(1, 0): in hour 23", Checks.told("9o;3c", "09").day(1, 0), 3);
+    OwnWeather w = Checks.told("0c;1c", "09");
+    Checks.goings(w, 0, 0, 4, 0, 1, 5);
     due("day(1, NONE): lots are told behind goings", w.day(1, NONE), 24 - firstHourOfBoth(1));
-    goings(w, 23, 0, 4, 23, 1, 5);
+    Checks.goings(w, 23, 0, 4, 23, 1, 5);
     due("day(1, NONE): a later hour counts", w.day(1, NONE), 23 - firstHourOfBoth(1));
-    OwnWeather z = told("5o;6o", "");
+    OwnWeather z = Checks.told("5o;6o", "");
     due("day(7, 1): no places", z.day(7, 1), 6);
     due("day(7, NONE): no places", z.day(7, NONE), 0);
     due("day(7, 2)", z.day(7, 2), BAD);
@@ -771,7 +750,7 @@ public final class PromisesTest {
   }
 
   private static void write() {
-    OwnWeather x = told("8o;2h;4c", "45");
+    OwnWeather x = Checks.told("8o;2h;4c", "45");
     x.sheet(0, 0, 5);
     x.sheet(1, 2, 2);
     for (int i = 0; i < 5; i++) x.lay(0, 0, i, 50);
@@ -793,7 +772,7 @@ public final class PromisesTest {
   }
 
   private static void count() {
-    OwnWeather x = told("8o;2h;4c", "45;09");
+    OwnWeather x = Checks.told("8o;2h;4c", "45;09");
     x.go(0, 0, 0);
     x.seen(0, 0, 0);
     x.seen(0, 0, 0);
@@ -818,7 +797,7 @@ public final class PromisesTest {
     OwnWeather x = new OwnWeather();
     due("digest() of a new object", x.digest(), h);
     // One of 6, and a calm one of 2 at the second place, which wants 0 to 2.
-    x = told("6o;2c", "55;02");
+    x = Checks.told("6o;2c", "55;02");
     x.go(0, 1, 1);
     x.fog(0, 1, 1);
     h = 17;
@@ -833,41 +812,25 @@ public final class PromisesTest {
     x.sheet(0, 0, 3);
     x.get(0, 0, 9);
     due("digest() after a finding", x.digest(), h);
-    OwnWeather y = told("9o;2h;5c;1o;0o;7o;8h;3c", "47;02;79;36;55");
     int[] more = {0, 3, 1, 0, 4, 2, 1, 5, 3, 1, 6, 4, 2, 0, 4, 3, 7, 3, 4, 2, 1, 6, 5, 4, 20, 1, 5};
-    for (int k = 0; k + 2 < more.length; k += 3) {
-      due("digest() with " + k / 3 + " goings", y.digest(), digestByCalls(y));
-      y.go(more[k], more[k + 1], more[k + 2]);
+    for (int k = 0; k <= more.length / 3; k++) {
+      OwnWeather y = withGoings(java.util.Arrays.copyOf(more, 3 * k));
+      due("digest() with " + k + " goings", y.digest(), Digests.byCalls(y));
     }
+    OwnWeather y = withGoings(more);
     y.seen(1, 0, y.bright(1, 0));
-    due("digest() with one seen", y.digest(), digestByCalls(y));
+    due("digest() with one seen", y.digest(), Digests.byCalls(y));
+    y = withGoings(more);
     y.fog(2, 4, 1);
-    due("digest() with fog", y.digest(), digestByCalls(y));
+    due("digest() with fog", y.digest(), Digests.byCalls(y));
+    y = withGoings(more);
     y.undo(1);
-    due("digest() with a faulty text", y.digest(), digestByCalls(y));
+    due("digest() with a faulty text", y.digest(), Digests.byCalls(y));
   }
 
-  private static long sum = 0;
-
-  private static void mix(long... values) {
-    for (long v : values) sum = 31 * sum + v;
-  }
-
-  private static long digestByCalls(OwnWeather x) {
-    sum = 17;
-    for (int what = 0; what < 8; what++) mix(x.count(what));
-    mix(x.fault(0), x.fault(1));
-    for (int hour : new int[] {0, 1, 5, 23}) {
-      mix(x.met(hour));
-      for (int p = 0; p < x.count(0); p++) mix(x.where(hour, p), x.bright(hour, p));
-      for (int q = 0; q < x.count(1); q++) mix(x.crowd(hour, q), x.sky(hour, q, 0), x.sky(hour, q, 1));
-    }
-    for (int q = 0; q < x.count(1); q++) {
-      mix(x.spoilt(q), x.send(q, 3, 0), x.send(q, 3, 1), x.keep(q, 2, 5, 0), x.keep(q, 2, 5, 1));
-      mix(x.row(1, q, NONE), x.row(1, q, 0), x.news(5, q, 2, 0), x.news(5, q, 2, 1), x.roof(5, q, 0));
-    }
-    for (int p = 0; p < x.count(0); p++) mix(x.may(p));
-    mix(x.lightning(0), x.lightning(1), x.settles(), x.hid(), x.day(7, NONE), x.day(7, 0));
-    return sum;
+  private static OwnWeather withGoings(int[] triples) {
+    OwnWeather x = Checks.told("9o;2h;5c;1o;0o;7o;8h;3c", "47;02;79;36;55");
+    Checks.goings(x, triples);
+    return x;
   }
 }

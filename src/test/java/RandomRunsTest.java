@@ -2,7 +2,7 @@ import java.util.Random;
 
 /** Runs of calls by a fixed seed on the class and on the model, whose answers must be alike. */
 public final class RandomRunsTest {
-  private static final int RUNS = 200, CALLS = 480;
+  private static final int RUNS = 200, CALLS = 512;
   private static final int KINDS = 37;
 
   private final Random random;
@@ -10,6 +10,7 @@ public final class RandomRunsTest {
   private final Model y = new Model();
   private String call;
   private long got, want;
+  private int calls = 0;
 
   private RandomRunsTest(long seed) { random = new Random(seed); }
 
@@ -23,10 +24,10 @@ public final class RandomRunsTest {
   private int play(int run) {
     tellText(0);
     tellText(1);
-    for (int k = 0; k < CALLS; k++) {
+    while (calls < CALLS) {
       one();
       if (got != want) {
-        System.out.println("run " + run + ", call " + k + ": " + call + " answered " + got + ", due is " + want);
+        System.out.println("run " + run + ", call " + calls + ": " + call + " answered " + got + ", due is " + want);
         return 1;
       }
     }
@@ -48,6 +49,7 @@ public final class RandomRunsTest {
     call = s.append(')').toString();
     got = a;
     want = b;
+    calls++;
   }
 
   /** Mostly a number of what there is, if there is any. */
@@ -64,7 +66,7 @@ public final class RandomRunsTest {
     }
     answer("wipe", x.wipe(text), y.wipe(text), text);
     for (char b : s.toString().toCharArray()) {
-      if (got == want) answer("type", x.type(text, b), y.type(text, b), text, (int) b);
+      if (got == want && calls < CALLS) answer("type", x.type(text, b), y.type(text, b), text, (int) b);
     }
   }
 
@@ -102,7 +104,7 @@ public final class RandomRunsTest {
   }
 
   private void people(int kind) {
-    int a = some(2), h = some(24), p = of(x.count(0), 8), q = of(x.count(1), 6), s = some(4);
+    int a = some(2), h = some(24), p = of(y.count(0), 8), q = of(y.count(1), 6), s = some(4);
     switch (kind) {
       case 3 -> answer("person", x.person(p, a), y.person(p, a), p, a);
       case 4 -> answer("place", x.place(q, a), y.place(q, a), q, a);
@@ -113,7 +115,7 @@ public final class RandomRunsTest {
   }
 
   private void hours(int kind) {
-    int h = some(24), p = of(x.count(0), 8), q = of(x.count(1), 6), what = some(2);
+    int h = some(24), p = of(y.count(0), 8), q = of(y.count(1), 6), what = some(2);
     switch (kind) {
       case 10 -> answer("where", x.where(h, p), y.where(h, p), h, p);
       case 11 -> answer("bright", x.bright(h, p), y.bright(h, p), h, p);
@@ -127,7 +129,7 @@ public final class RandomRunsTest {
   }
 
   private void plans(int kind) {
-    int h = some(24), p = of(x.count(0), 8), q = of(x.count(1), 6), what = some(2), b = some(10), c = some(17);
+    int h = some(24), p = of(y.count(0), 8), q = of(y.count(1), 6), what = some(2), b = some(10), c = some(17);
     int seed = random.nextInt();
     switch (kind) {
       case 18 -> answer("send", x.send(q, h, what), y.send(q, h, what), q, h, what);
