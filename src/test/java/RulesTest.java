@@ -1,4 +1,5 @@
 import java.io.IOException;
+import java.lang.management.ManagementFactory;
 import java.lang.reflect.Constructor;
 import java.lang.reflect.Field;
 import java.lang.reflect.Method;
@@ -6,7 +7,9 @@ import java.lang.reflect.Modifier;
 import java.nio.file.Files;
 import java.nio.file.Path;
 import java.util.Arrays;
+import java.util.Map;
 import java.util.Set;
+import java.util.TreeMap;
 import java.util.TreeSet;
 import java.util.regex.Matcher;
 import java.util.regex.Pattern;
@@ -26,6 +29,11 @@ public final class RulesTest {
     "\\bthrow\\b", "\\btry\\b", "\\bcatch\\b", "\\bsynchronized\\b", "\\bassert\\b", "\\bimport\\b", "\\bpackage\\b",
     "->", "::", "\\bvar\\b", "Exact\\b", "\\bprotected\\b", "\\bvolatile\\b", "\\btransient\\b", "\\bnative\\b",
     "\\bstatic\\s*\\{", "Integer\\.MIN", "Integer\\.MAX", "Long\\.MIN", "Long\\.MAX", "\\bObject\\b", "\\bSystem\\.(?!arraycopy)"};
+  private static final String[] HEADINGS = {
+    "people, places: type wipe undo fault person place go back read",
+    "hours: where bright crowd sky met spoilt lightning settles", "plans: send keep row",
+    "seen, fogs, news: seen fog forget may hid news roof day",
+    "sheets: sheet lose lay get copy write count digest"};
   private static int wrong = 0;
 
   private static void must(boolean holds, String what) {
@@ -40,7 +48,9 @@ public final class RulesTest {
     face();
     classesInside();
     words(text);
-    lengths(text);
+    headings(text);
+    methods(text);
+    rooms();
     System.out.println(wrong == 0 ? "the face and the rules hold" : wrong + " rules do not hold");
     if (wrong != 0) System.exit(1);
   }
@@ -73,9 +83,14 @@ public final class RulesTest {
     return s.append(')').toString();
   }
 
-  private static void classesInside() {
+  private static Set<String> names() {
     Set<String> names = new TreeSet<>();
     for (String f : FACE) names.add(f.substring(f.indexOf(' ') + 1, f.indexOf('(')));
+    return names;
+  }
+
+  private static void classesInside() {
+    Set<String> names = names();
     must(OwnWeather.class.getDeclaredClasses().length < 12, "at most some twelve classes");
     hidden(OwnWeather.class, names);
     for (Class<?> c : OwnWeather.class.getDeclaredClasses()) {
@@ -107,20 +122,72 @@ public final class RulesTest {
     while (library.find()) must(may.contains(library.group(2)), library.group() + " is in the library that is left");
   }
 
-  private static void lengths(String text) {
-    int since = -1, number = 0;
-    String indent = "";
+  /** "Ahead of the calls .. the interface says: ---- people, places", and so on, each in the document's order. */
+  private static void headings(String text) {
+    StringBuilder found = new StringBuilder();
+    Matcher m = Pattern.compile("// ---- ([a-z, ]+)\n|    public (?:int|long) (\\w+)\\(").matcher(text);
+    while (m.find()) found.append(m.group(1) != null ? "\n" + m.group(1) + ":" : " " + m.group(2));
+    for (String h : HEADINGS) must((found + "\n").contains("\n" + h + "\n"), "the calls stand under: " + h);
+  }
+
+  /** Each method's lines by its name; those of like names in several classes are taken together. */
+  private static Map<String, String> bodies(String text) {
+    Map<String, String> bodies = new TreeMap<>();
+    String name = null, indent = "";
+    int since = 0, number = 0;
     for (String line : text.split("\n")) {
       number++;
-      Matcher m = Pattern.compile("^( +)[\\w\\[\\]<> ]+\\([^;=]*\\) \\{$").matcher(line);
-      if (since < 0 && m.find() && !line.trim().matches("(if|for|while|switch|return|else)\\b.*")) {
-        since = number;
+      Matcher m = Pattern.compile("^( +)[\\w\\[\\]<> ]*?(\\w+)\\([^;=]*\\) \\{$").matcher(line);
+      if (name == null && m.find() && !m.group(2).matches("if|for|while|switch")) {
+        name = m.group(2);
         indent = m.group(1);
-      } else if (since >= 0 && line.equals(indent + "}")) {
-        must(number - since < 60, "the method at line " + since + " is short");
-        since = -1;
+        since = number;
+      } else if (name != null && line.equals(indent + "}")) {
+        must(number - since < 60, name + " is short");
+        name = null;
+      } else if (name != null) {
+        bodies.merge(name, line + "\n", String::concat);
       }
     }
-    must(since < 0, "every method's end is found");
+    must(name == null, "every method's end is found");
+    return bodies;
+  }
+
+  private static void methods(String text) {
+    Map<String, String> bodies = bodies(text.replaceAll("(?s)/\\*.*?\\*/", "").replaceAll("//[^\n]*", ""));
+    must(bodies.keySet().containsAll(names()), "every method of the face is found");
+    for (String name : bodies.keySet()) {
+      must(depth(name, bodies, 1) <= 8, name + " goes at most eight calls deep");
+      boolean isConstructor = Character.isUpperCase(name.charAt(0));
+      must(isConstructor || !bodies.get(name).matches("(?s).*\\bnew\\b.*"), name + " makes no object");
+    }
+  }
+
+  /** How many calls stand open at once; recursion would go on beyond the bound. */
+  private static int depth(String name, Map<String, String> bodies, int open) {
+    int deepest = 1;
+    if (open > 20) return deepest;
+    Matcher m = Pattern.compile("\\b(\\w+)\\(").matcher(bodies.get(name));
+    Set<String> called = new TreeSet<>();
+    while (m.find()) if (bodies.containsKey(m.group(1))) called.add(m.group(1));
+    for (String next : called) deepest = Math.max(deepest, 1 + depth(next, bodies, open + 1));
+    return deepest;
+  }
+
+  /** All calls of a run live in one room: what one object takes of it, when made and by 512 of its dearest calls. */
+  private static void rooms() {
+    com.sun.management.ThreadMXBean threads = (com.sun.management.ThreadMXBean) ManagementFactory.getThreadMXBean();
+    long id = Thread.currentThread().getId();
+    OwnWeather[] made = new OwnWeather[100];
+    new OwnWeather().digest();
+    long before = threads.getThreadAllocatedBytes(id);
+    for (int k = 0; k < made.length; k++) made[k] = new OwnWeather();
+    long each = (threads.getThreadAllocatedBytes(id) - before) / made.length;
+    must(each < 10_000, "an object takes less than 10,000 bytes, not " + each);
+    OwnWeather x = Acts.object();
+    before = threads.getThreadAllocatedBytes(id);
+    for (int k = 0; k < 50; k++) x.digest();
+    long taken = threads.getThreadAllocatedBytes(id) - before;
+    must(taken < 10_000, "a digest makes nothing, not " + taken + " bytes by 50 of them");
   }
 }
